@@ -13,16 +13,18 @@ public final class HallDesk {
     private static final int MOST_PEOPLE = 20, MOST_MONEY = 100000, MOST_ROOM = 200, MOST_CLAIM = 1000000;
     private static final int EDGE = 1000, NO_WAY = 1000000;
     private static final int BYTES = 0, INTS = 2, MOST_IN_BYTES = 127, MOST_IN_OTHERS = 1000;
-    private static final int SUM = 0, MOST = 1, PRICED = 2, ROOMED = 3, FINED = 4, CLOSED = 5, RIVAL = 6, KINDS = 7;
+    private static final int SUM = 0, MOST = 1, PRICED = 2, ROOMED = 3, FINED = 4, CLOSED = 5, RIVAL = 6;
     private static final int ANY_SIZE = -1;
     private static final int BROKEN = -100;
     private static final int[] FACTORIALS = {1, 1, 2, 6, 24, 120, 720, 5040, 40320};
 
     private final Plan now = new Plan();
     private final Past past = new Past();
-    private final Costs costs = new Costs(now);
+    private final Reach reach = new Reach(now);
+    private final Rooming rooming = new Rooming(now, reach);
+    private final Costs costs = new Costs(now, reach, rooming);
     private final Claims claims = new Claims(now);
-    private final Heaps heaps = new Heaps(now);
+    private final Heaps heaps = new Heaps(now, reach);
     private final Line onLine = new Line(now);
     private int hand;
 
@@ -121,7 +123,7 @@ public final class HallDesk {
         if (!within(v, 0, now.widths[hall] == BYTES ? MOST_IN_BYTES : MOST_IN_OTHERS)) {
             return BAD;
         }
-        return change(now.ways, Plan.slot(hall, place), v);
+        return change(now.ways, hall * MOST_TOWNS + place, v);
     }
 
     public int copy(int hall, int place, int to, int at, int many) {
@@ -138,7 +140,7 @@ public final class HallDesk {
             return INDEX;
         }
         keepForUndo();
-        System.arraycopy(now.ways, Plan.slot(hall, place), now.ways, Plan.slot(to, at), many);
+        System.arraycopy(now.ways, hall * MOST_TOWNS + place, now.ways, to * MOST_TOWNS + at, many);
         return many;
     }
 
@@ -185,36 +187,45 @@ public final class HallDesk {
     }
 
     public int cost(int kind) {
-        return isKind(kind) ? costs.costOf(kind, hand) : BAD;
+        return isKind(kind) ? freshCosts().costOf(kind, hand) : BAD;
     }
 
     public int goes(int kind, int town) {
         if (!within(kind, SUM, FINED) || !now.hasTown(town)) {
             return BAD;
         }
-        return costs.hallFor(kind, hand, town);
+        return freshCosts().hallFor(kind, hand, town);
     }
 
     public int worst(int kind) {
-        if (kind == CLOSED) {
-            return costs.worstToClose(hand);
+        if (kind != CLOSED && kind != RIVAL) {
+            return BAD;
         }
-        return kind == RIVAL ? costs.worstRival(hand) : BAD;
+        return kind == CLOSED ? freshCosts().worstToClose(hand) : freshCosts().worstRival(hand);
     }
 
     public int least(int kind, int k) {
-        return isQuestion(kind, k) ? costs.leastOf(kind, k) : BAD;
+        if (!isQuestion(kind, k)) {
+            return BAD;
+        }
+        freshCosts().seekBest(kind, k);
+        return costs.least;
     }
 
     public int many(int kind, int k) {
-        return isQuestion(kind, k) ? costs.bestUpTo(kind, k, now.everyHall()) : BAD;
+        if (!isQuestion(kind, k)) {
+            return BAD;
+        }
+        freshCosts().seekBest(kind, k);
+        return costs.bestUpTo(now.everyHall());
     }
 
     public int best(int kind, int k, int i) {
         if (!isQuestion(kind, k) || i < 0) {
             return BAD;
         }
-        int set = costs.bestAt(kind, k, i);
+        freshCosts().seekBest(kind, k);
+        int set = costs.bestAt(i);
         if (set != NONE) {
             hand = set;
         }
@@ -225,15 +236,17 @@ public final class HallDesk {
         if (!isQuestion(kind, k)) {
             return BAD;
         }
-        return costs.isBest(kind, k, hand) ? costs.bestUpTo(kind, k, hand) - 1 : NONE;
+        freshCosts().seekBest(kind, k);
+        return costs.isBest(hand) ? costs.bestUpTo(hand) - 1 : NONE;
     }
 
     public int better(int kind, int n) {
         if (!isKind(kind) || !within(n, 1, MOST_TIMES)) {
             return BAD;
         }
+        freshCosts().seekBest(kind, ANY_SIZE);
         for (int times = 0; times < n; times++) {
-            int next = costs.cheapestBeside(kind, hand);
+            int next = costs.cheapestBeside(hand);
             if (next == hand) {
                 return times;
             }
@@ -274,12 +287,13 @@ public final class HallDesk {
         if (now.halls == 0) {
             return NONE;
         }
+        heaps.refresh();
         int all = now.everyTown();
-        if (claims.together(all) != heaps.costOfHeap(all)) {
+        if (claims.together(all) != heaps.leastCosts[all]) {
             return 1;
         }
         for (int heap = 1; heap <= all; heap++) {
-            if (claims.together(heap) > heaps.costOfHeap(heap)) {
+            if (claims.together(heap) > heaps.leastCosts[heap]) {
                 return 2 + heap;
             }
         }
@@ -293,6 +307,7 @@ public final class HallDesk {
         if (now.halls == 0) {
             return NONE;
         }
+        heaps.refresh();
         long above = heaps.addedInAllOrders(town);
         long below = FACTORIALS[now.towns];
         long common = commonDivisor(above, below);
@@ -362,8 +377,14 @@ public final class HallDesk {
     }
 
     private void forgetAnswers() {
-        costs.forget();
+        reach.forget();
+        rooming.forget();
         heaps.forget();
+    }
+
+    private Costs freshCosts() {
+        reach.refresh();
+        return costs;
     }
 
     private int change(int[] row, int at, int v) {
@@ -423,6 +444,7 @@ public final class HallDesk {
         final int[] rooms = new int[MOST_HALLS];
         final int[] widths = new int[MOST_HALLS];
         final int[] lengths = new int[MOST_HALLS];
+        // MOST_TOWNS for each HALL; NO_WAY where its SHEET does not reach.
         final int[] ways = new int[MOST_HALLS * MOST_TOWNS];
 
         void takeFrom(Plan other) {
@@ -459,11 +481,9 @@ public final class HallDesk {
         void laySheet(int hall, int width, int n) {
             widths[hall] = width;
             lengths[hall] = n;
-            Arrays.fill(ways, slot(hall, 0), slot(hall + 1, 0), 0);
-        }
-
-        static int slot(int hall, int place) {
-            return hall * MOST_TOWNS + place;
+            for (int place = 0; place < MOST_TOWNS; place++) {
+                ways[hall * MOST_TOWNS + place] = place < n ? 0 : NO_WAY;
+            }
         }
 
         boolean hasTown(int town) {
@@ -492,35 +512,15 @@ public final class HallDesk {
         }
 
         int wayOf(int hall, int town) {
-            return town < lengths[hall] ? ways[slot(hall, town)] : NO_WAY;
+            return ways[hall * MOST_TOWNS + town];
         }
 
         int tripOf(int hall, int town) {
-            return crowds[town] * wayOf(hall, town);
-        }
-
-        int nearestOf(int set, int town) {
-            int nearest = NONE;
-            int least = 0;
-            for (int hall = 0; hall < halls; hall++) {
-                if (isIn(hall, set) && (nearest == NONE || wayOf(hall, town) < least)) {
-                    nearest = hall;
-                    least = wayOf(hall, town);
-                }
-            }
-            return nearest;
+            return crowds[town] * ways[hall * MOST_TOWNS + town];
         }
 
         static boolean isIn(int bit, int bits) {
             return ((bits >> bit) & 1) != 0;
-        }
-
-        int pricesOf(int set) {
-            int together = 0;
-            for (int hall = 0; hall < halls; hall++) {
-                together += isIn(hall, set) ? prices[hall] : 0;
-            }
-            return together;
         }
 
         int allPeople() {
@@ -577,53 +577,91 @@ public final class HallDesk {
         }
     }
 
-    /** COSTS of SETS by KINDS, each worked out when it is first asked for after a change. */
-    private static final class Costs {
-        private static final int UNKNOWN = -2;
-
+    /** For every SET its TOWNS' least WAYS, its SUM and its PRICES, all made when first asked for after a change. */
+    private static final class Reach {
         private final Plan plan;
-        private final Rooming rooming;
-        private final int[][] rows = new int[KINDS][ALL_SETS];
-        private final int[] nearWays = new int[MOST_TOWNS];
+        // MOST_TOWNS for each SET.
+        final int[] nearWays = new int[ALL_SETS * MOST_TOWNS];
+        final int[] sums = new int[ALL_SETS];
+        final int[] prices = new int[ALL_SETS];
         private boolean stale = true;
 
-        Costs(Plan plan) {
+        Reach(Plan plan) {
             this.plan = plan;
-            this.rooming = new Rooming(plan);
         }
 
         void forget() {
             stale = true;
-            rooming.forget();
         }
 
-        private void startAnew() {
-            for (int kind = 0; kind < KINDS; kind++) {
-                Arrays.fill(rows[kind], UNKNOWN);
+        void refresh() {
+            if (!stale) {
+                return;
             }
             stale = false;
+            for (int town = 0; town < MOST_TOWNS; town++) {
+                nearWays[town] = NO_WAY;
+            }
+            sums[0] = plan.towns == 0 ? 0 : NONE;
+            prices[0] = 0;
+            for (int hall = 0; hall < plan.halls; hall++) {
+                for (int others = 0; others < 1 << hall; others++) {
+                    addHallTo(others, hall);
+                }
+            }
+        }
+
+        private void addHallTo(int others, int hall) {
+            int set = others | 1 << hall;
+            int sum = 0;
+            for (int town = 0; town < plan.towns; town++) {
+                int near = Math.min(nearWays[others * MOST_TOWNS + town], plan.wayOf(hall, town));
+                nearWays[set * MOST_TOWNS + town] = near;
+                sum += plan.crowds[town] * near;
+            }
+            sums[set] = sum;
+            prices[set] = prices[others] + plan.prices[hall];
+        }
+
+        int nearWay(int set, int town) {
+            return nearWays[set * MOST_TOWNS + town];
+        }
+
+        int nearHall(int set, int town) {
+            for (int hall = 0; hall < plan.halls; hall++) {
+                if (Plan.isIn(hall, set) && plan.wayOf(hall, town) == nearWay(set, town)) {
+                    return hall;
+                }
+            }
+            return NONE;
+        }
+    }
+
+    /** COSTS of SETS by KINDS, and the questions about the BEST. It counts on a Reach that is fresh. */
+    private static final class Costs {
+        private final Plan plan;
+        private final Reach reach;
+        private final Rooming rooming;
+        // By SETS: their COSTS in the question at hand; NONE also for SETS that are not of its size.
+        private final int[] asked = new int[ALL_SETS];
+        int least;
+
+        Costs(Plan plan, Reach reach, Rooming rooming) {
+            this.plan = plan;
+            this.reach = reach;
+            this.rooming = rooming;
         }
 
         int costOf(int kind, int set) {
-            if (stale) {
-                startAnew();
-            }
-            if (rows[kind][set] == UNKNOWN) {
-                rows[kind][set] = workOut(kind, set);
-            }
-            return rows[kind][set];
-        }
-
-        private int workOut(int kind, int set) {
             switch (kind) {
                 case SUM:
-                    return isUnserved(set) ? NONE : sumOf(set);
+                    return reach.sums[set];
                 case MOST:
-                    return isUnserved(set) ? NONE : mostOf(set);
+                    return mostOf(set);
                 case PRICED:
-                    return isUnserved(set) ? NONE : costOf(SUM, set) + plan.pricesOf(set);
+                    return withPrices(reach.sums[set], set);
                 case ROOMED:
-                    return roomedOf(set);
+                    return withPrices(Rooming.tripsOf(rooming.fillingOf(set)), set);
                 case FINED:
                     return finedOf(set);
                 case CLOSED:
@@ -633,53 +671,33 @@ public final class HallDesk {
             }
         }
 
-        private boolean isUnserved(int set) {
-            return set == 0 && plan.towns > 0;
-        }
-
-        private void measure(int set) {
-            for (int town = 0; town < plan.towns; town++) {
-                int hall = plan.nearestOf(set, town);
-                nearWays[town] = hall == NONE ? NO_WAY : plan.wayOf(hall, town);
-            }
-        }
-
-        private int sumOf(int set) {
-            measure(set);
-            int together = 0;
-            for (int town = 0; town < plan.towns; town++) {
-                together += plan.crowds[town] * nearWays[town];
-            }
-            return together;
+        private int withPrices(int trips, int set) {
+            return trips == NONE ? NONE : trips + reach.prices[set];
         }
 
         private int mostOf(int set) {
-            measure(set);
+            if (reach.sums[set] == NONE) {
+                return NONE;
+            }
             int greatest = 0;
             for (int town = 0; town < plan.towns; town++) {
-                greatest = Math.max(greatest, nearWays[town]);
+                greatest = Math.max(greatest, reach.nearWay(set, town));
             }
             return greatest;
         }
 
-        private int roomedOf(int set) {
-            long filling = rooming.fillingOf(set);
-            return filling == Rooming.NEVER ? NONE : Rooming.tripsOf(filling) + plan.pricesOf(set);
-        }
-
         // The empty SET leaves all: no FINE reaches what one of its TOWNS would cost.
         private int finedOf(int set) {
-            measure(set);
-            int together = plan.pricesOf(set);
+            int together = reach.prices[set];
             for (int town = 0; town < plan.towns; town++) {
-                together += Math.min(plan.fines[town], plan.crowds[town] * nearWays[town]);
+                together += Math.min(plan.fines[town], plan.crowds[town] * reach.nearWay(set, town));
             }
             return together;
         }
 
         private int closedOf(int set) {
             int hall = worstToClose(set);
-            return hall == NONE ? NONE : costOf(SUM, set & ~(1 << hall));
+            return hall == NONE ? NONE : reach.sums[set & ~(1 << hall)];
         }
 
         int worstToClose(int set) {
@@ -689,9 +707,9 @@ public final class HallDesk {
             int worst = NONE;
             int most = NONE;
             for (int hall = 0; hall < plan.halls; hall++) {
-                if (Plan.isIn(hall, set) && costOf(SUM, set & ~(1 << hall)) > most) {
+                if (Plan.isIn(hall, set) && reach.sums[set & ~(1 << hall)] > most) {
                     worst = hall;
-                    most = costOf(SUM, set & ~(1 << hall));
+                    most = reach.sums[set & ~(1 << hall)];
                 }
             }
             return worst;
@@ -701,45 +719,54 @@ public final class HallDesk {
             if (set == 0) {
                 return NONE;
             }
-            // Asking for the rival also measures the SET, which takenBy needs.
             int rival = worstRival(set);
-            return rival == NONE ? 0 : takenBy(rival);
+            return rival == NONE ? 0 : takenBy(rival, set);
         }
 
         int worstRival(int set) {
             if (set == 0) {
                 return NONE;
             }
-            measure(set);
             int worst = NONE;
             int most = NONE;
             for (int hall = 0; hall < plan.halls; hall++) {
-                if (!Plan.isIn(hall, set) && takenBy(hall) > most) {
+                int taken = Plan.isIn(hall, set) ? NONE : takenBy(hall, set);
+                if (taken > most) {
                     worst = hall;
-                    most = takenBy(hall);
+                    most = taken;
                 }
             }
             return worst;
         }
 
-        private int takenBy(int rival) {
+        private int takenBy(int rival, int set) {
             int taken = 0;
             for (int town = 0; town < plan.towns; town++) {
-                taken += plan.wayOf(rival, town) < nearWays[town] ? plan.crowds[town] : 0;
+                taken += plan.wayOf(rival, town) < reach.nearWay(set, town) ? plan.crowds[town] : 0;
             }
             return taken;
         }
 
         int hallFor(int kind, int set, int town) {
             if (kind == ROOMED) {
-                long filling = rooming.fillingOf(set);
-                return filling == Rooming.NEVER ? NONE : Rooming.hallIn(filling, town);
+                return Rooming.hallIn(rooming.fillingOf(set), town);
             }
-            int hall = plan.nearestOf(set, town);
+            int hall = reach.nearHall(set, town);
             if (kind == FINED && hall != NONE && plan.fines[town] < plan.tripOf(hall, town)) {
                 return NONE;
             }
             return hall;
+        }
+
+        void seekBest(int kind, int k) {
+            least = NONE;
+            for (int set = 0; set <= plan.everyHall(); set++) {
+                boolean counts = k == ANY_SIZE || Integer.bitCount(set) == k;
+                asked[set] = counts ? costOf(kind, set) : NONE;
+                if (isLess(asked[set], least)) {
+                    least = asked[set];
+                }
+            }
         }
 
         // One that has a COST is less than one that has none.
@@ -747,39 +774,22 @@ public final class HallDesk {
             return one != NONE && (other == NONE || one < other);
         }
 
-        private static boolean isOfSize(int k, int set) {
-            return k == ANY_SIZE || Integer.bitCount(set) == k;
+        boolean isBest(int set) {
+            return least != NONE && asked[set] == least;
         }
 
-        int leastOf(int kind, int k) {
-            int least = NONE;
-            for (int set = 0; set <= plan.everyHall(); set++) {
-                if (isOfSize(k, set) && isLess(costOf(kind, set), least)) {
-                    least = costOf(kind, set);
-                }
-            }
-            return least;
-        }
-
-        boolean isBest(int kind, int k, int set) {
-            int least = leastOf(kind, k);
-            return least != NONE && isOfSize(k, set) && costOf(kind, set) == least;
-        }
-
-        int bestUpTo(int kind, int k, int last) {
-            int least = leastOf(kind, k);
+        int bestUpTo(int last) {
             int found = 0;
-            for (int set = 0; least != NONE && set <= last; set++) {
-                found += (isOfSize(k, set) && costOf(kind, set) == least) ? 1 : 0;
+            for (int set = 0; set <= last; set++) {
+                found += isBest(set) ? 1 : 0;
             }
             return found;
         }
 
-        int bestAt(int kind, int k, int i) {
-            int least = leastOf(kind, k);
+        int bestAt(int i) {
             int ahead = 0;
-            for (int set = 0; least != NONE && set <= plan.everyHall(); set++) {
-                if (isOfSize(k, set) && costOf(kind, set) == least) {
+            for (int set = 0; set <= plan.everyHall(); set++) {
+                if (isBest(set)) {
                     if (ahead == i) {
                         return set;
                     }
@@ -789,10 +799,10 @@ public final class HallDesk {
             return NONE;
         }
 
-        int cheapestBeside(int kind, int from) {
+        int cheapestBeside(int from) {
             int cheapest = from;
             for (int set = 0; set <= plan.everyHall(); set++) {
-                if (isBeside(from, set) && isLess(costOf(kind, set), costOf(kind, cheapest))) {
+                if (isBeside(from, set) && isLess(asked[set], asked[cheapest])) {
                     cheapest = set;
                 }
             }
@@ -811,27 +821,32 @@ public final class HallDesk {
      * number, and fillings of two heaps of TOWNS are joined by adding.
      */
     private static final class Rooming {
-        static final long NEVER = 1L << 60;
+        private static final long NEVER = 1L << 60, UNKNOWN = -2;
         private static final int HALL_BITS = 3, CODE_BITS = HALL_BITS * MOST_TOWNS;
 
         private final Plan plan;
-        // tables[h][heap]: the best filling with a heap of the HALLS of the built SET from h on.
+        private final Reach reach;
+        private final long[] fillings = new long[ALL_SETS];
+        // tables[h][heap]: the best filling with a heap of those HALLS of the built SET that are h or above.
         private final long[][] tables = new long[MOST_HALLS + 1][ALL_HEAPS];
+        private final long[] trips = new long[MOST_HALLS * MOST_TOWNS];
         private final long[] alone = new long[ALL_HEAPS];
         private final int[] peopleOf = new int[ALL_HEAPS];
         private final int[] guests = new int[MOST_HALLS];
         private int built = NONE;
+        private boolean stale = true;
 
-        Rooming(Plan plan) {
+        Rooming(Plan plan, Reach reach) {
             this.plan = plan;
+            this.reach = reach;
         }
 
         static int tripsOf(long filling) {
-            return (int) (filling >> CODE_BITS);
+            return filling == NEVER ? NONE : (int) (filling >> CODE_BITS);
         }
 
         static int hallIn(long filling, int town) {
-            return (int) ((filling >> shiftOf(town)) & ((1 << HALL_BITS) - 1));
+            return filling == NEVER ? NONE : (int) ((filling >> shiftOf(town)) & ((1 << HALL_BITS) - 1));
         }
 
         private static int shiftOf(int town) {
@@ -839,19 +854,38 @@ public final class HallDesk {
         }
 
         void forget() {
-            built = NONE;
+            stale = true;
         }
 
         long fillingOf(int set) {
-            if (set == 0) {
-                return plan.towns == 0 ? 0 : NEVER;
+            if (stale) {
+                startAnew();
             }
-            long nearest = nearestFilling(set);
-            return nearest == NEVER ? bestFilling(set) : nearest;
+            if (fillings[set] == UNKNOWN) {
+                fillings[set] = nearestFilling(set);
+            }
+            if (fillings[set] == UNKNOWN) {
+                fillings[set] = bestFilling(set);
+            }
+            return fillings[set];
         }
 
-        private long tripTo(int hall, int town) {
-            return ((long) plan.tripOf(hall, town) << CODE_BITS) + ((long) hall << shiftOf(town));
+        private void startAnew() {
+            stale = false;
+            built = NONE;
+            Arrays.fill(fillings, UNKNOWN);
+            fillings[0] = plan.towns == 0 ? 0 : NEVER;
+            Arrays.fill(tables[plan.halls], NEVER);
+            tables[plan.halls][0] = 0;
+            for (int town = 0; town < plan.towns; town++) {
+                for (int hall = 0; hall < plan.halls; hall++) {
+                    long cost = (long) plan.tripOf(hall, town) << CODE_BITS;
+                    trips[hall * MOST_TOWNS + town] = cost + ((long) hall << shiftOf(town));
+                }
+                for (int heap = 0; heap < 1 << town; heap++) {
+                    peopleOf[heap | 1 << town] = peopleOf[heap] + plan.crowds[town];
+                }
+            }
         }
 
         // Where rooms are wide enough for all to go to the nearest, nothing is better and no tables are due.
@@ -859,20 +893,17 @@ public final class HallDesk {
             long filling = 0;
             Arrays.fill(guests, 0);
             for (int town = 0; town < plan.towns; town++) {
-                int hall = plan.nearestOf(set, town);
+                int hall = reach.nearHall(set, town);
                 if (hall == NONE || guests[hall] + plan.crowds[town] > plan.rooms[hall]) {
-                    return NEVER;
+                    return UNKNOWN;
                 }
                 guests[hall] += plan.crowds[town];
-                filling += tripTo(hall, town);
+                filling += trips[hall * MOST_TOWNS + town];
             }
             return filling;
         }
 
         private long bestFilling(int set) {
-            if (built == NONE) {
-                layGround();
-            }
             for (int hall = plan.halls - 1; hall >= 0; hall--) {
                 // SETS are mostly asked in order: what they share in their upper HALLS is built once.
                 if (set >> hall != built >> hall) {
@@ -883,25 +914,16 @@ public final class HallDesk {
             return tables[0][plan.everyTown()];
         }
 
-        private void layGround() {
-            long[] ground = tables[plan.halls];
-            Arrays.fill(ground, NEVER);
-            ground[0] = 0;
-            peopleOf[0] = 0;
-            for (int town = 0; town < plan.towns; town++) {
-                int bit = 1 << town;
-                for (int heap = 0; heap < bit; heap++) {
-                    peopleOf[bit + heap] = peopleOf[heap] + plan.crowds[town];
-                }
-            }
-        }
-
         private void layTable(int hall, boolean opened) {
             System.arraycopy(tables[hall + 1], 0, tables[hall], 0, ALL_HEAPS);
             if (!opened) {
                 return;
             }
-            fillAlone(hall);
+            for (int town = 0; town < plan.towns; town++) {
+                for (int heap = 0; heap < 1 << town; heap++) {
+                    alone[heap | 1 << town] = alone[heap] + trips[hall * MOST_TOWNS + town];
+                }
+            }
             int all = plan.everyTown();
             for (int heap = 1; heap <= all; heap++) {
                 if (peopleOf[heap] <= plan.rooms[hall]) {
@@ -910,28 +932,18 @@ public final class HallDesk {
             }
         }
 
-        private void fillAlone(int hall) {
-            alone[0] = 0;
-            for (int town = 0; town < plan.towns; town++) {
-                int bit = 1 << town;
-                long trip = tripTo(hall, town);
-                for (int heap = 0; heap < bit; heap++) {
-                    alone[bit + heap] = alone[heap] + trip;
-                }
-            }
-        }
-
         private void admit(int hall, int heap, int others) {
             long[] before = tables[hall + 1];
             long[] after = tables[hall];
-            after[heap | others] = Math.min(after[heap | others], before[others] + alone[heap]);
+            long here = alone[heap];
+            after[heap | others] = Math.min(after[heap | others], before[others] + here);
             // Nothing is built upon HALL 0's table: there only the heap of all TOWNS is asked for.
-            if (hall == 0) {
-                return;
-            }
-            for (int rest = others; rest > 0;) {
+            int rest = hall == 0 ? 0 : others;
+            while (rest > 0) {
                 rest = (rest - 1) & others;
-                after[heap | rest] = Math.min(after[heap | rest], before[rest] + alone[heap]);
+                if (before[rest] + here < after[heap | rest]) {
+                    after[heap | rest] = before[rest] + here;
+                }
             }
         }
     }
@@ -947,7 +959,9 @@ public final class HallDesk {
         }
 
         void dropLost() {
-            Arrays.fill(values, plan.towns, MOST_TOWNS, 0);
+            for (int town = plan.towns; town < MOST_TOWNS; town++) {
+                values[town] = 0;
+            }
         }
 
         int together(int heap) {
@@ -1062,45 +1076,41 @@ public final class HallDesk {
     /** What HEAPS of TOWNS cost, worked out when it is first asked for after a change. */
     private static final class Heaps {
         private final Plan plan;
-        private final int[] leastCosts = new int[ALL_HEAPS];
+        private final Reach reach;
+        final int[] leastCosts = new int[ALL_HEAPS];
         private final int[] byOneSet = new int[ALL_HEAPS];
         private boolean stale = true;
 
-        Heaps(Plan plan) {
+        Heaps(Plan plan, Reach reach) {
             this.plan = plan;
+            this.reach = reach;
         }
 
         void forget() {
             stale = true;
         }
 
-        int costOfHeap(int heap) {
-            if (stale) {
-                workOutAll();
-                stale = false;
+        void refresh() {
+            if (!stale) {
+                return;
             }
-            return leastCosts[heap];
-        }
-
-        private void workOutAll() {
+            stale = false;
+            reach.refresh();
             Arrays.fill(leastCosts, Integer.MAX_VALUE);
-            for (int set = 1; set <= plan.everyHall(); set++) {
-                priceHeaps(set);
-                for (int heap = 1; heap <= plan.everyTown(); heap++) {
-                    leastCosts[heap] = Math.min(leastCosts[heap], byOneSet[heap]);
-                }
-            }
             leastCosts[0] = 0;
+            for (int set = 1; set <= plan.everyHall(); set++) {
+                offer(set);
+            }
         }
 
-        private void priceHeaps(int set) {
-            byOneSet[0] = plan.pricesOf(set);
+        private void offer(int set) {
+            byOneSet[0] = reach.prices[set];
             for (int town = 0; town < plan.towns; town++) {
-                int bit = 1 << town;
-                int hall = plan.nearestOf(set, town);
-                int trip = hall == NONE ? 0 : plan.tripOf(hall, town);
-                for (int heap = 0; heap < bit; heap++) {
-                    byOneSet[bit + heap] = byOneSet[heap] + trip;
+                int trip = plan.crowds[town] * reach.nearWay(set, town);
+                for (int rest = 0; rest < 1 << town; rest++) {
+                    int heap = rest | 1 << town;
+                    byOneSet[heap] = byOneSet[rest] + trip;
+                    leastCosts[heap] = Math.min(leastCosts[heap], byOneSet[heap]);
                 }
             }
         }
@@ -1113,7 +1123,7 @@ public final class HallDesk {
                     int before = Integer.bitCount(ahead);
                     int behind = plan.towns - 1 - before;
                     long orders = (long) FACTORIALS[before] * FACTORIALS[behind];
-                    together += orders * (costOfHeap(ahead | 1 << town) - costOfHeap(ahead));
+                    together += orders * (leastCosts[ahead | 1 << town] - leastCosts[ahead]);
                 }
             }
             return together;
