@@ -92,6 +92,7 @@ public final class LineAndCountTest {
         HallDesk edges = desk(1000, -1000);
         due.is("the least place", edges.lineAt(0, 2, 0), 0);
         due.is("the greatest place", edges.lineAt(0, 2, 1), 2000);
+        choice(edges, 1, 1, -1000);
     }
 
     private static void count() {
