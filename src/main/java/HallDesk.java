@@ -1075,6 +1075,9 @@ public final class HallDesk {
 
     /** What HEAPS of TOWNS cost, worked out when it is first asked for after a change. */
     private static final class Heaps {
+        // No HEAP costs as much: 160 PEOPLE with no WAY, and all PRICES, stay below 2 to the 28th.
+        private static final int TOO_MUCH = 1 << 30;
+
         private final Plan plan;
         private final Reach reach;
         final int[] leastCosts = new int[ALL_HEAPS];
@@ -1096,7 +1099,7 @@ public final class HallDesk {
             }
             stale = false;
             reach.refresh();
-            Arrays.fill(leastCosts, Integer.MAX_VALUE);
+            Arrays.fill(leastCosts, TOO_MUCH);
             leastCosts[0] = 0;
             for (int set = 1; set <= plan.everyHall(); set++) {
                 offer(set);

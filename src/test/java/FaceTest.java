@@ -92,7 +92,7 @@ public final class FaceTest {
     }
 
     private static void words(String source) {
-        String code = source.replaceAll("(?s)/\\*.*?\\*/", "").replaceAll("//[^\n]*", "");
+        String code = withoutComments(source);
         String[] forbidden = {"\\bthrow\\b", "\\btry\\b", "\\bcatch\\b", "\\bsynchronized\\b", "\\bassert\\b", "->", "::",
             "\\bprotected\\b", "Exact\\b", "\\bSystem\\.(?!arraycopy\\b)", "\\bstatic\\s*\\{", "\\bpackage\\b",
             "\\bimport\\s+(?!java\\.util\\.Arrays;)", "\\bMath\\.random\\b", "\\bfinalize\\b", "\""};
@@ -102,6 +102,24 @@ public final class FaceTest {
         }
         boolean plain = source.chars().allMatch(c -> c < 128);
         due.isTrue("plain characters", plain);
+    }
+
+    private static String withoutComments(String source) {
+        return source.replaceAll("(?s)/\\*.*?\\*/", "").replaceAll("//[^\n]*", "");
+    }
+
+    // Rule 4 lists functions alone: a constant such as Integer.MAX_VALUE is none of them.
+    private static void library(String source) {
+        Set<String> listed =
+                Set.of("Integer.bitCount", "Math.abs", "Math.max", "Math.min", "System.arraycopy", "Arrays.fill");
+        Set<String> own = new TreeSet<>();
+        for (Class<?> inside : HallDesk.class.getDeclaredClasses()) {
+            own.add(inside.getSimpleName());
+        }
+        Matcher m = Pattern.compile("\\b([A-Z]\\w*)\\.\\w+").matcher(withoutComments(source));
+        while (m.find()) {
+            due.isTrue("rule 4 lists " + m.group(), own.contains(m.group(1)) || listed.contains(m.group()));
+        }
     }
 
     // All that lives in one run is counted: a desk is small, and its calls make nothing.
@@ -148,7 +166,9 @@ public final class FaceTest {
         calls();
         constants();
         maker();
-        words(Files.readString(Path.of("src/main/java/HallDesk.java")));
+        String source = Files.readString(Path.of("src/main/java/HallDesk.java"));
+        words(source);
+        library(source);
         space();
         due.end("FaceTest");
     }
